@@ -268,7 +268,6 @@ public final class TellTale {
 
     private void sendWhatIsDue(Node sender) {
         if (sender.machine.sends) {
-            sender.machine.sends = false;
             sendMessage(sender, sender.machine.sendsTo, sender.machine.sendsValue);
         }
     }
@@ -277,7 +276,8 @@ public final class TellTale {
         Log log = sender.log;
         long before = log.heads[log.count];
         log.append(SENDING, to, value);
-        if (post.sendsInto()) {
+        post.sentInAll++;
+        if (post.hasRoom()) {
             Letter letter = post.addLast();
             letter.address(MESSAGE, sender.self, to);
             letter.value = value;
@@ -292,10 +292,10 @@ public final class TellTale {
         if (witness == sender) {
             return 0;
         }
-        if (post.sendsInto()) {
+        post.sentInAll++;
+        if (post.hasRoom()) {
             Letter letter = post.addLast();
             letter.address(NOTE, signer, witness);
-            letter.value = 0;
             letter.seal(shelf.numbers[i], shelf.heads[i], signatureOf(signer, shelf.numbers[i], shelf.heads[i]));
         }
         return 1;
@@ -653,9 +653,7 @@ public final class TellTale {
             }
         }
 
-        // Counts what is sent: whether there is room for it.
-        boolean sendsInto() {
-            sentInAll++;
+        boolean hasRoom() {
             return count < MOST_LETTERS;
         }
 
@@ -677,11 +675,11 @@ public final class TellTale {
         }
 
         boolean repeat(int i) {
-            if (count >= MOST_LETTERS) {
-                return false;
+            boolean room = hasRoom();
+            if (room) {
+                addLast().becomeLike(letters[i]);
             }
-            addLast().becomeLike(letters[i]);
-            return true;
+            return room;
         }
     }
 
