@@ -8,6 +8,7 @@ public final class LettersTest {
         promise04Answer();
         promise04TakenOnce();
         promise04TakenOnceByEach();
+        promise04LastNumbers();
         promise04WrongSignature();
         promise04FullLog();
         promise04Note();
@@ -110,6 +111,21 @@ public final class LettersTest {
         Check.due("number 1 to 2", x.deliver(0), true);
         Check.due("audit by 1", x.audit(1, 0), 2);
         Check.due("evidence", x.byteOf(0, 0), 1);
+    }
+
+    private static void promise04LastNumbers() {
+        Check.part("promise 4, the last numbers of the last node");
+        TellTale x = new TellTale();
+        x.open(6);
+        for (int i = 0; i < 148; i++) {
+            x.lie(5, 0, SILENT);
+        }
+        Check.due("the last entries", x.input(5, 2), 150);
+        Check.due("number 150", x.deliver(148), true);
+        Check.due("number 148", x.deliver(147), true);
+        Check.due("number 1", x.deliver(0), true);
+        Check.due("number 2", x.deliver(0), true);
+        Check.due("taken", x.about(0, 4), 4);
     }
 
     private static void promise04WrongSignature() {
