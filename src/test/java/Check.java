@@ -1,3 +1,8 @@
+import java.lang.reflect.InvocationTargetException;
+import java.lang.reflect.Method;
+import java.util.Arrays;
+import java.util.Comparator;
+
 /** Counts what is not as due; a test's main ends with exit code 1 if there was anything. */
 final class Check {
     static final String IAE = "IllegalArgumentException";
@@ -11,6 +16,34 @@ final class Check {
     private static String part = "";
 
     private Check() {
+    }
+
+    // Every method whose name begins with "promise", so that no test can be written and not run.
+    static void all(Class<?> tests) {
+        Method[] methods = tests.getDeclaredMethods();
+        Arrays.sort(methods, Comparator.comparing(Method::getName));
+        int ran = 0;
+        for (Method method : methods) {
+            if (method.getName().startsWith("promise")) {
+                part(method.getName());
+                run(method);
+                ran++;
+            }
+        }
+        part(tests.getName());
+        due("there are tests", ran > 0, true);
+        end();
+    }
+
+    private static void run(Method method) {
+        try {
+            method.invoke(null);
+        } catch (InvocationTargetException e) {
+            tell("ended by " + e.getCause());
+            e.getCause().printStackTrace(System.out);
+        } catch (IllegalAccessException e) {
+            tell("can't be called");
+        }
     }
 
     static void part(String name) {

@@ -1,407 +1,487 @@
-/** Promises 4 to 8: letters that are handed over, lost, copied, spoiled, and notes of what is kept. */
+/** Promises 5 to 8: drop(), copy(), spoil() and forward(). Behind each // the sentence that the test holds to. */
 public final class LettersTest {
-    // A receipt of it makes no answer: bits 27 to 29 are not all zeros.
-    private static final int SILENT = 1 << 28;
+    private static final int SILENT = Scenes.SILENT;
+    private static final int[] NO_LETTERS_OF_FOUR = {-1, 4, 5, 199, 200, Integer.MIN_VALUE, Integer.MAX_VALUE};
 
     public static void main(String[] args) {
-        promise04Message();
-        promise04Answer();
-        promise04TakenOnce();
-        promise04TakenOnceByEach();
-        promise04LastNumbers();
-        promise04WrongSignature();
-        promise04FullLog();
-        promise04Note();
-        promise04Wrong();
-        promise04FullRow();
-        promise05Drop();
-        promise06Copy();
-        promise07Spoil();
-        promise08Forward();
-        promise08WhatIsForwarded();
-        promise08FullRow();
-        Check.end();
+        Check.all(LettersTest.class);
     }
 
-    private static void promise04Message() {
-        Check.part("promise 4, message");
-        TellTale x = new TellTale();
-        x.open(4);
-        x.lie(0, 2, SILENT);
-        x.lie(0, 3, SILENT + 1);
-        x.lie(1, 2, -3);
-        Check.due("deliver(1)", x.deliver(1), true);
-        Check.due("letters", x.total(0), 2);
-        Check.due("log of 3", x.about(3, 0), 1);
-        Check.due("kind", x.entry(3, 1, 0), 2);
-        Check.due("who", x.entry(3, 1, 1), 0);
-        Check.due("value", x.entry(3, 1, 2), SILENT + 1);
-        Check.due("B", x.about(3, 2), Sums.receipt(0, SILENT + 1, 0));
-        Check.due("A", x.about(3, 1), 0);
-        Check.due("kept", x.about(3, 3), 1);
-        Check.due("taken", x.about(3, 4), 1);
-        Check.due("log of 2", x.about(2, 0), 0);
-        Check.due("deliver(0)", x.deliver(0), true);
-        Check.due("deliver(0), behind it", x.deliver(0), true);
-        int b = Sums.receipt(Sums.receipt(0, SILENT, 0), -3, 1);
-        Check.due("B of 2", x.about(2, 2), b);
-        Check.due("who of the second", x.entry(2, 2, 1), 1);
-        Check.due("kept by 2", x.about(2, 3), 2);
-        Check.due("letters", x.total(0), 0);
+    // Messages with the values 11, 12, 13 of node 0 to node 2.
+    private static TellTale threeMessages() {
+        TellTale x = Scenes.opened(4);
+        for (int value = 11; value <= 13; value++) {
+            x.lie(0, 2, value);
+        }
+        return x;
     }
 
-    private static void promise04Answer() {
-        Check.part("promise 4, answer");
-        TellTale x = new TellTale();
-        x.lie(2, 1, 7);
-        x.lie(0, 2, SILENT);
-        Check.due("deliver", x.deliver(0), true);
-        Check.due("log of 1", x.about(1, 0), 2);
-        Check.due("kind", x.entry(1, 2, 0), 3);
-        Check.due("who", x.entry(1, 2, 1), 2);
-        Check.due("value", x.entry(1, 2, 2), 9 << 5);
-        Check.due("letters", x.total(0), 2);
+    private static void tell(TellTale x, int... values) {
+        Check.due("letters", x.total(0), values.length);
+        for (int i = 0; i < values.length; i++) {
+            Check.due("value of letter " + i, x.spoil(i, values[i]), values[i]);
+        }
+    }
+
+    // A node of six that keeps a head of each other one.
+    private static TellTale keepsAll(int node) {
+        TellTale x = Scenes.opened(6);
+        for (int from = 0; from < 6; from++) {
+            if (from != node) {
+                x.lie(from, node, SILENT);
+                x.deliver(0);
+            }
+        }
+        Check.due("kept", x.about(node, 3), 5);
+        return x;
+    }
+
+    // Letter i is lost: 1 a message, 2 a note.
+    static void promise05MessageIsLost() {
+        TellTale x = threeMessages();
+        Check.due("drop(0)", x.drop(0), 1);
+        tell(x, 12, 13);
+        Check.due("taken by 2", x.about(2, 4), 0);
+        Check.due("kept by 2", x.about(2, 3), 0);
         Check.due("sent", x.total(1), 3);
-        Check.due("the answer is the last letter", x.spoil(1, 9 << 5), 9 << 5);
-        Check.due("deliver the answer", x.deliver(1), true);
-        Check.due("log of 2, which answers again", x.about(2, 0), 3);
-        TellTale y = new TellTale();
-        for (int bit = 0; bit < 32; bit++) {
-            y.open(3);
-            y.lie(0, 1, 1 << bit);
-            y.deliver(0);
-            Check.due("log behind bit " + bit, y.about(1, 0), bit >= 27 && bit <= 29 ? 1 : 2);
-        }
     }
 
-    private static void promise04TakenOnce() {
-        Check.part("promise 4, taken once");
-        TellTale x = new TellTale();
-        x.lie(0, 1, SILENT);
-        x.copy(0);
-        Check.due("the first", x.deliver(0), true);
-        Check.due("its copy", x.deliver(0), false);
-        Check.due("letters", x.total(0), 0);
-        Check.due("log", x.about(1, 0), 1);
-        Check.due("taken", x.about(1, 4), 1);
-        x.cut(0, 0);
-        x.lie(0, 1, SILENT + 8);
-        Check.due("another one of that node and number", x.deliver(0), false);
-        Check.due("kept", x.about(1, 3), 1);
-        x.lie(0, 1, SILENT + 8);
-        Check.due("the next number", x.deliver(0), true);
-        x.lie(2, 1, SILENT);
-        Check.due("the same number of another node", x.deliver(0), true);
-        x.cut(1, 0);
-        x.cut(0, 0);
-        x.lie(0, 1, SILENT);
-        Check.due("that number, with a cut log", x.deliver(0), false);
-        Check.due("taken in all", x.about(1, 4), 3);
-        Check.due("kept in all", x.about(1, 3), 3);
-    }
-
-    // What another receiver took is nothing to this one.
-    private static void promise04TakenOnceByEach() {
-        Check.part("promise 4, taken once by each receiver");
-        TellTale x = new TellTale();
-        x.lie(0, 1, SILENT);
-        Check.due("number 1 to 1", x.deliver(0), true);
-        x.cut(0, 0);
-        x.lie(0, 2, SILENT);
-        Check.due("number 1 to 2", x.deliver(0), true);
-        Check.due("audit by 1", x.audit(1, 0), 2);
-        Check.due("evidence", x.byteOf(0, 0), 1);
-    }
-
-    private static void promise04LastNumbers() {
-        Check.part("promise 4, the last numbers of the last node");
-        TellTale x = new TellTale();
-        x.open(6);
-        for (int i = 0; i < 148; i++) {
-            x.lie(5, 0, SILENT);
-        }
-        Check.due("the last entries", x.input(5, 2), 150);
-        Check.due("number 150", x.deliver(148), true);
-        Check.due("number 148", x.deliver(147), true);
-        Check.due("number 1", x.deliver(0), true);
-        Check.due("number 2", x.deliver(0), true);
-        Check.due("taken", x.about(0, 4), 4);
-    }
-
-    private static void promise04WrongSignature() {
-        Check.part("promise 4, signature");
-        TellTale x = new TellTale();
-        x.lie(0, 1, SILENT);
-        x.spoil(0, SILENT + 1);
-        x.copy(0);
-        Check.due("a spoiled one", x.deliver(0), false);
-        Check.due("letters", x.total(0), 1);
-        Check.due("log", x.about(1, 0), 0);
-        Check.due("B", x.about(1, 2), 0);
-        Check.due("kept", x.about(1, 3), 0);
-        Check.due("taken", x.about(1, 4), 0);
-        x.spoil(0, SILENT);
-        Check.due("one made good again", x.deliver(0), true);
-        x.input(0, 1);
-        x.lie(0, 2, 5);
-        x.bend(0, 1, 3);
-        x.cut(0, 0);
-        Check.due("one of a log that is no more", x.deliver(0), true);
-        int[][] was = {{3, 1, SILENT}, {1, 0, 1}, {3, 2, 5}};
-        x.lie(0, 1, 1);
-        x.bend(0, 1, SILENT);
-        x.input(0, 1 - 31);
-        x.bend(0, 2, 1);
-        x.lie(0, 1, 1);
-        x.cut(0, 2);
-        x.lie(0, 2, 5);
-        Check.due("head as it was", x.head(0, 3), Sums.head(was, 3));
-        Check.due("audit by 2 finds no fork, but a run", x.audit(2, 0), 2);
-        Check.due("kind of evidence", x.byteOf(0, 0), 2);
-    }
-
-    private static void promise04FullLog() {
-        Check.part("promise 4, full log");
-        TellTale x = new TellTale();
-        x.lie(0, 1, SILENT);
-        x.copy(0);
-        x.copy(0);
-        for (int i = 0; i < 149; i++) {
-            x.lie(1, 2, i);
-        }
-        Check.due("with one place left", x.deliver(0), false);
-        Check.due("kept", x.about(1, 3), 0);
-        Check.due("taken", x.about(1, 4), 0);
-        Check.due("log", x.about(1, 0), 149);
-        x.cut(1, 148);
-        Check.due("with two places left", x.deliver(0), true);
-        Check.due("log then", x.about(1, 0), 149);
-    }
-
-    private static void promise04Note() {
-        Check.part("promise 4, note");
-        TellTale x = new TellTale();
-        x.open(5);
+    static void promise05NoteIsLost() {
+        TellTale x = Scenes.opened(5);
         x.lie(0, 4, SILENT);
         x.deliver(0);
-        Check.due("notes", x.forward(4), 2);
-        x.copy(0);
-        Check.due("to the first witness", x.deliver(0), true);
-        Check.due("kept by 1", x.about(1, 3), 1);
-        Check.due("log of 1", x.about(1, 0), 0);
-        Check.due("taken by 1", x.about(1, 4), 0);
-        Check.due("letters", x.total(0), 2);
-        Check.due("to the second", x.deliver(0), true);
+        x.forward(4);
+        Check.due("drop(0)", x.drop(0), 2);
+        Check.due("letters", x.total(0), 1);
+        Check.due("not sent again", x.forward(4), 0);
+        Check.due("the other note", x.deliver(0), true);
         Check.due("kept by 2", x.about(2, 3), 1);
-        Check.due("a copy to the first", x.deliver(0), false);
-        Check.due("kept by 1 still", x.about(1, 3), 1);
+        Check.due("kept by 1", x.about(1, 3), 0);
+    }
+
+    static void promise05MidstOfTheRow() {
+        TellTale x = threeMessages();
+        Check.due("drop(1)", x.drop(1), 1);
+        tell(x, 11, 13);
+    }
+
+    static void promise05LastOfTheRow() {
+        TellTale x = threeMessages();
+        Check.due("drop(2)", x.drop(2), 1);
+        tell(x, 11, 12);
+    }
+
+    static void promise05OnlyOneOfTheRow() {
+        TellTale x = new TellTale();
+        x.lie(0, 1, 3);
+        Check.due("drop(0)", x.drop(0), 1);
         Check.due("letters", x.total(0), 0);
-        Check.due("what came by a note is not forwarded", x.forward(1), 0);
-        Check.part("promise 4, message behind a note");
-        TellTale y = new TellTale();
-        y.lie(0, 1, SILENT);
-        y.copy(0);
-        y.deliver(0);
-        y.forward(1);
-        Check.due("the copy", y.deliver(0), false);
-        Check.due("the note", y.deliver(0), true);
-        Check.due("by 2", y.about(2, 3), 1);
+        Check.iae("drop(0) again", () -> x.drop(0));
     }
 
-    private static void promise04Wrong() {
-        Check.part("promise 4, wrong");
-        TellTale x = new TellTale();
-        Check.iae("deliver(0) of none", () -> x.deliver(0));
-        x.lie(0, 1, 5);
-        x.lie(0, 1, 5);
-        for (int bad : new int[] {-1, 2, 200, Integer.MIN_VALUE, Integer.MAX_VALUE}) {
-            Check.iae("deliver(" + bad + ")", () -> x.deliver(bad));
-            Check.iae("drop(" + bad + ")", () -> x.drop(bad));
-            Check.iae("copy(" + bad + ")", () -> x.copy(bad));
-            Check.iae("spoil(" + bad + ", 1)", () -> x.spoil(bad, 1));
-        }
-        Check.due("letters", x.total(0), 2);
-        Check.due("log of 1", x.about(1, 0), 0);
+    static void promise05FullRow() {
+        TellTale x = Scenes.manyLetters(200);
+        Check.due("drop(199)", x.drop(199), 1);
+        Check.iae("drop(199) again", () -> x.drop(199));
+        Check.due("letters", x.total(0), 199);
+        x.lie(1, 2, 4);
+        Check.due("there is room for one", x.total(0), 200);
+        Check.due("it is the last", x.spoil(199, 4), 4);
     }
 
-    // The letter that is handed over makes room for the answer to it.
-    private static void promise04FullRow() {
-        Check.part("promise 4, full row");
-        TellTale x = new TellTale();
-        x.lie(0, 1, 7);
-        for (int i = 1; i < 200; i++) {
-            Check.due("copy number " + i, x.copy(0), true);
-        }
-        x.lie(2, 0, 3);
-        Check.due("letters", x.total(0), 200);
-        Check.due("sent, with one lost", x.total(1), 2);
-        Check.due("its sender's log", x.about(2, 0), 1);
-        Check.due("deliver(0)", x.deliver(0), true);
-        Check.due("letters with the answer", x.total(0), 200);
-        Check.due("sent with the answer", x.total(1), 3);
-        Check.due("the answer", x.spoil(199, 1), 7 << 5);
-    }
-
-    private static void promise05Drop() {
-        Check.part("promise 5");
-        TellTale x = new TellTale();
-        x.open(4);
-        x.lie(0, 1, SILENT);
-        x.deliver(0);
-        x.lie(0, 2, 11);
-        x.forward(1);
-        x.lie(0, 2, 12);
-        x.lie(0, 2, 13);
-        Check.due("letters", x.total(0), 4);
-        Check.due("a message", x.drop(2), 1);
-        Check.due("a note", x.drop(1), 2);
-        Check.due("letters left", x.total(0), 2);
-        Check.due("the first stays", x.spoil(0, 11), 11);
-        Check.due("the last moves up", x.spoil(1, 13), 13);
-        Check.iae("drop(2)", () -> x.drop(2));
-        Check.due("kept by 2", x.about(2, 3), 0);
-        Check.due("sent", x.total(1), 5);
-        Check.due("not forwarded again", x.forward(1), 0);
-        Check.due("drop(0)", x.drop(0), 1);
-        Check.due("drop(0)", x.drop(0), 1);
-        Check.iae("drop(0) of none", () -> x.drop(0));
-        x.lie(0, 2, 14);
+    static void promise05RowGoesOnBehindIt() {
+        TellTale x = threeMessages();
+        x.drop(0);
+        x.drop(0);
+        x.drop(0);
+        x.lie(0, 2, SILENT);
+        tell(x, SILENT);
         Check.due("a new one", x.deliver(0), true);
-        Check.due("its value", x.entry(2, 1, 2), 14);
+        Check.due("its value", x.entry(2, 1, 2), SILENT);
     }
 
-    private static void promise06Copy() {
-        Check.part("promise 6");
-        TellTale x = new TellTale();
-        x.open(4);
-        x.lie(0, 1, 1);
-        x.lie(0, 2, 2);
-        x.lie(0, 3, 3);
-        Check.due("copy(1)", x.copy(1), true);
-        Check.due("letters", x.total(0), 4);
-        Check.due("sent", x.total(1), 3);
-        Check.due("behind all others", x.spoil(3, 22), 2);
-        Check.due("the first one stays as it is", x.spoil(1, 2), 2);
-        Check.due("the last of them", x.spoil(2, 3), 3);
-        Check.due("a spoiled copy", x.deliver(3), false);
-        Check.due("copy(0)", x.copy(0), true);
-        Check.due("the copy is as good", x.deliver(3), true);
-        Check.due("its value", x.entry(1, 1, 2), 1);
-        Check.due("the first then", x.deliver(0), false);
-        TellTale y = new TellTale();
-        y.open(5);
-        y.lie(0, 4, SILENT);
-        y.deliver(0);
-        y.forward(4);
-        for (int i = 2; i < 200; i++) {
-            Check.due("copy of a note", y.copy(i % 2), true);
+    static void promise05RefusesNoLetter() {
+        for (int bad : NO_LETTERS_OF_FOUR) {
+            Twins.refuse(Check.IAE, "drop(" + bad + ")", Scenes::busy, x -> x.drop(bad));
         }
-        Check.due("copy into a full row", y.copy(0), false);
-        Check.due("letters", y.total(0), 200);
-        Check.due("sent", y.total(1), 3);
-        Check.iae("copy(200)", () -> y.copy(200));
-        Check.due("the last copy", y.deliver(199), true);
-        Check.due("for the second witness", y.about(2, 3), 1);
-        Check.due("copy into the room", y.copy(0), true);
-        Check.due("drop of a note's copy", y.drop(199), 2);
     }
 
-    private static void promise07Spoil() {
-        Check.part("promise 7");
+    static void promise05RefusesAnEmptyRow() {
+        Twins.refuse(Check.IAE, "drop(0)", Scenes::fresh, x -> x.drop(0));
+    }
+
+    static void promise05RefusesBehindAFullRow() {
+        Twins.refuse(Check.IAE, "drop(200)", () -> Scenes.manyLetters(200), x -> x.drop(200));
+    }
+
+    // Letter i once more, behind all others: whether there was room.
+    static void promise06CopyStandsBehindAllOthers() {
+        for (int i = 0; i < 3; i++) {
+            TellTale x = threeMessages();
+            Check.due("copy(" + i + ")", x.copy(i), true);
+            tell(x, 11, 12, 13, 11 + i);
+            Check.due("sent, copies not", x.total(1), 3);
+        }
+    }
+
+    static void promise06CopyIsAsGood() {
+        TellTale x = Scenes.opened(4);
+        x.lie(3, 1, SILENT);
+        x.lie(3, 2, SILENT);
+        x.copy(0);
+        Check.due("the copy", x.deliver(2), true);
+        Check.due("who", x.entry(1, 1, 1), 3);
+        Check.due("what it was made of", x.deliver(0), false);
+        Check.due("another letter", x.deliver(0), true);
+    }
+
+    static void promise06CopyIsALetterOfItsOwn() {
+        TellTale x = threeMessages();
+        x.copy(1);
+        x.spoil(3, 5);
+        tell(x, 11, 12, 13, 5);
+        x.spoil(1, 6);
+        tell(x, 11, 6, 13, 5);
+        x.copy(3);
+        tell(x, 11, 6, 13, 5, 5);
+        Check.due("a spoiled copy", x.deliver(3), false);
+        x.drop(1);
+        tell(x, 11, 13, 5);
+    }
+
+    static void promise06CopyOfANote() {
+        TellTale x = Scenes.opened(5);
+        x.lie(0, 4, SILENT);
+        x.deliver(0);
+        x.forward(4);
+        Check.due("copy(1)", x.copy(1), true);
+        x.drop(1);
+        Check.due("the copy", x.deliver(1), true);
+        Check.due("kept by 2", x.about(2, 3), 1);
+        Check.due("drop of the other", x.drop(0), 2);
+    }
+
+    static void promise06CopyOfACopyOfANoteIsANote() {
+        TellTale x = threeMessages();
+        x.drop(0);
+        x.lie(1, 2, SILENT);
+        x.deliver(2);
+        x.forward(2);
+        x.copy(2);
+        x.copy(3);
+        Check.iae("spoil of it", () -> x.spoil(4, 1));
+        Check.due("drop of it", x.drop(4), 2);
+    }
+
+    // LETTERS lie in a row of 200 at most
+    static void promise06IntoTheLastPlace() {
+        TellTale x = Scenes.manyLetters(199);
+        Check.due("copy(198)", x.copy(198), true);
+        Check.due("letters", x.total(0), 200);
+        Check.due("its value", x.spoil(199, 1), SILENT);
+    }
+
+    static void promise06IntoAFullRow() {
+        TellTale x = Scenes.manyLetters(200);
+        x.spoil(0, 4);
+        Check.due("copy(0)", x.copy(0), false);
+        Check.due("copy(199)", x.copy(199), false);
+        Check.due("letters", x.total(0), 200);
+        Check.due("the last letter's value", x.spoil(199, SILENT), SILENT);
+        Check.due("sent", x.total(1), 1);
+        x.drop(199);
+        Check.due("copy(0) with room again", x.copy(0), true);
+        Check.due("its value", x.spoil(199, 4), 4);
+    }
+
+    static void promise06IntoAFullRowChangesNothing() {
+        TellTale x = Scenes.manyLetters(200);
+        x.copy(7);
+        Twins.alike("copy into a full row", x, Scenes.manyLetters(200));
+    }
+
+    static void promise06RefusesNoLetter() {
+        for (int bad : NO_LETTERS_OF_FOUR) {
+            Twins.refuse(Check.IAE, "copy(" + bad + ")", Scenes::busy, x -> x.copy(bad));
+        }
+    }
+
+    static void promise06RefusesAnEmptyRow() {
+        Twins.refuse(Check.IAE, "copy(0)", Scenes::fresh, x -> x.copy(0));
+    }
+
+    static void promise06RefusesBehindAFullRow() {
+        Twins.refuse(Check.IAE, "copy(200)", () -> Scenes.manyLetters(200), x -> x.copy(200));
+        Twins.refuse(Check.IAE, "copy(-1)", () -> Scenes.manyLetters(200), x -> x.copy(-1));
+    }
+
+    // The value that message i tells becomes another one: what it was; its signature stays.
+    static void promise07ValueBecomesAnother() {
+        TellTale x = threeMessages();
+        Check.due("spoil(1, -4)", x.spoil(1, -4), 12);
+        tell(x, 11, -4, 13);
+        Check.due("spoil(1, MIN)", x.spoil(1, Integer.MIN_VALUE), -4);
+        Check.due("spoil(1, MAX)", x.spoil(1, Integer.MAX_VALUE), Integer.MIN_VALUE);
+        tell(x, 11, Integer.MAX_VALUE, 13);
+        Check.due("the log stays", x.entry(0, 2, 2), 12);
+    }
+
+    static void promise07FirstAndLastLetter() {
+        TellTale x = threeMessages();
+        Check.due("spoil(0, 1)", x.spoil(0, 1), 11);
+        Check.due("spoil(2, 3)", x.spoil(2, 3), 13);
+        tell(x, 1, 12, 3);
+        TellTale y = Scenes.manyLetters(200);
+        Check.due("spoil(199, 1)", y.spoil(199, 1), SILENT);
+        Check.due("spoil(199, 2)", y.spoil(199, 2), 1);
+        Check.due("spoil(198, 2)", y.spoil(198, 2), SILENT);
+    }
+
+    static void promise07SignatureStays() {
+        TellTale x = threeMessages();
+        x.spoil(0, 5);
+        x.copy(0);
+        Check.due("a spoiled one", x.deliver(0), false);
+        Check.due("made good again", x.spoil(2, 11), 5);
+        Check.due("one made good again", x.deliver(2), true);
+    }
+
+    static void promise07ToWhatItIs() {
+        TellTale x = Scenes.busy();
+        x.spoil(0, x.spoil(0, 3));
+        Twins.alike("spoil to what it is", x, Scenes.busy());
+    }
+
+    // IllegalArgumentException: also for a note.
+    static void promise07RefusesANote() {
+        Twins.refuse(Check.IAE, "spoil(2, 5) of a note", Scenes::busy, x -> x.spoil(2, 5));
+        Twins.refuse(Check.IAE, "spoil(2, 0) of a note", Scenes::busy, x -> x.spoil(2, 0));
+    }
+
+    static void promise07RefusesNoLetter() {
+        for (int bad : NO_LETTERS_OF_FOUR) {
+            Twins.refuse(Check.IAE, "spoil(" + bad + ", 5)", Scenes::busy, x -> x.spoil(bad, 5));
+        }
+    }
+
+    static void promise07RefusesAnEmptyRow() {
+        Twins.refuse(Check.IAE, "spoil(0, 5)", Scenes::fresh, x -> x.spoil(0, 5));
+        TellTale x = new TellTale();
+        x.lie(0, 1, 4);
+        x.drop(0);
+        Check.iae("spoil(0, 5) of what was dropped", () -> x.spoil(0, 5));
+    }
+
+    static void promise07RefusesBehindAFullRow() {
+        Twins.refuse(Check.IAE, "spoil(200, 5)", () -> Scenes.manyLetters(200), x -> x.spoil(200, 5));
+    }
+
+    // A node sends notes of all that it keeps and has not forwarded yet ...: how many.
+    static void promise08OfNothingKept() {
         TellTale x = new TellTale();
         x.lie(0, 1, SILENT);
-        Check.due("spoil(0, -4)", x.spoil(0, -4), SILENT);
-        Check.due("spoil(0, 9)", x.spoil(0, 9), -4);
-        Check.due("the log stays", x.entry(0, 1, 2), SILENT);
-        Check.due("spoil(0, good)", x.spoil(0, SILENT), 9);
-        Check.due("deliver", x.deliver(0), true);
-        Check.due("notes", x.forward(1), 1);
-        Check.iae("spoil of a note", () -> x.spoil(0, 5));
-        Check.due("the note", x.deliver(0), true);
-        Check.iae("spoil of none", () -> x.spoil(0, 5));
+        for (int node = 0; node < 3; node++) {
+            Check.due("forward(" + node + ")", x.forward(node), 0);
+        }
+        Check.due("letters", x.total(0), 1);
+        Check.due("sent", x.total(1), 1);
     }
 
-    private static void promise08Forward() {
-        Check.part("promise 8");
-        TellTale x = new TellTale();
-        x.open(6);
+    static void promise08NotTwice() {
+        TellTale x = keepsAll(0);
+        x.forward(0);
+        Check.due("again", x.forward(0), 0);
+        x.lie(3, 0, SILENT);
+        x.deliver(x.total(0) - 1);
+        Check.due("what is new", x.forward(0), 2);
+        Check.due("and again", x.forward(0), 0);
+    }
+
+    // in the order in which it kept them, each to the witnesses of the node that signed it, the first and the second
+    static void promise08InTheOrderOfKeeping() {
+        TellTale x = Scenes.opened(6);
         x.lie(0, 5, SILENT);
-        x.lie(3, 5, SILENT);
-        x.lie(4, 5, SILENT);
+        x.lie(2, 5, SILENT);
+        x.lie(1, 5, SILENT);
         x.deliver(2);
         x.deliver(0);
         x.deliver(0);
-        Check.due("notes", x.forward(5), 4);
-        Check.due("again", x.forward(5), 0);
-        Check.due("of nothing kept", x.forward(1), 0);
-        Check.due("letters", x.total(0), 4);
-        int[] to = {0, 1, 2, 4};
-        for (int i = 0; i < 4; i++) {
+        Check.due("notes", x.forward(5), 6);
+        int[] to = {2, 3, 1, 2, 3, 4};
+        int[] kept = {1, 1, 1, 2, 2, 1};
+        for (int i = 0; i < 6; i++) {
             Check.due("note " + i, x.deliver(0), true);
-            Check.due("goes to " + to[i], x.about(to[i], 3), 1);
+            Check.due("goes to " + to[i], x.about(to[i], 3), kept[i]);
         }
-        Check.due("kept by itself", x.about(5, 3), 3);
-        x.lie(1, 5, SILENT);
-        x.deliver(0);
-        Check.due("only what is new", x.forward(5), 2);
-        x.deliver(0);
-        Check.due("to the first witness of 1", x.about(2, 3), 2);
-        x.deliver(0);
-        Check.due("to the second", x.about(3, 3), 1);
-        for (int bad : new int[] {-1, 6, Integer.MAX_VALUE, Integer.MIN_VALUE}) {
-            Check.iae("forward(" + bad + ")", () -> x.forward(bad));
-        }
-        Check.due("what 1 and 4 got by notes", x.forward(0) + x.forward(1) + x.forward(2) + x.forward(4), 0);
     }
 
-    private static void promise08WhatIsForwarded() {
-        Check.part("promise 8, what");
+    static void promise08BehindAllOtherLetters() {
+        TellTale x = threeMessages();
+        x.lie(0, 3, SILENT);
+        x.deliver(3);
+        Check.due("notes", x.forward(3), 2);
+        Check.due("the first letter", x.drop(0), 1);
+        Check.due("the last letter", x.drop(3), 2);
+    }
+
+    // WITNESSES of node i are the nodes i + 1 and i + 2, modulo n.
+    static void promise08WitnessesOfTheLastNodes() {
+        for (int nodes = 4; nodes <= 6; nodes++) {
+            TellTale x = Scenes.opened(nodes);
+            x.lie(nodes - 1, 2, SILENT);
+            x.deliver(0);
+            Check.due("notes of the last node's head", x.forward(2), 2);
+            x.deliver(0);
+            Check.due("kept by 0", x.about(0, 3), 1);
+            x.deliver(0);
+            Check.due("kept by 1", x.about(1, 3), 1);
+            x.lie(nodes - 2, 1, SILENT);
+            x.deliver(0);
+            Check.due("notes of the last but one", x.forward(1), 2);
+            x.deliver(0);
+            Check.due("kept by the last", x.about(nodes - 1, 3), 1);
+            x.deliver(0);
+            Check.due("kept by 0 then", x.about(0, 3), 2);
+        }
+    }
+
+    // but itself
+    static void promise08FirstWitnessSendsToTheSecond() {
+        TellTale x = Scenes.opened(4);
+        x.lie(3, 0, SILENT);
+        x.deliver(0);
+        Check.due("forward by the first witness", x.forward(0), 1);
+        x.deliver(0);
+        Check.due("kept by the second", x.about(1, 3), 1);
+    }
+
+    static void promise08SecondWitnessSendsToTheFirst() {
+        TellTale x = Scenes.opened(4);
+        x.lie(3, 1, SILENT);
+        x.deliver(0);
+        Check.due("forward by the second witness", x.forward(1), 1);
+        x.deliver(0);
+        Check.due("kept by the first", x.about(0, 3), 1);
+    }
+
+    static void promise08EachNodeOfSix() {
+        for (int node = 0; node < 6; node++) {
+            TellTale x = keepsAll(node);
+            Check.due("notes of " + node, x.forward(node), 8);
+            Check.due("sent", x.total(1), 13);
+            for (int i = 0; i < 8; i++) {
+                Check.due("note " + i, x.deliver(0), true);
+            }
+            Check.due("kept by itself", x.about(node, 3), 5);
+        }
+    }
+
+    // (What comes by a note is not forwarded again; what an audit makes it keep is.)
+    static void promise08WhatCameByANoteIsNot() {
+        TellTale x = Scenes.opened(5);
+        x.lie(0, 4, SILENT);
+        x.deliver(0);
+        x.forward(4);
+        x.deliver(0);
+        x.deliver(0);
+        Check.due("by the first witness", x.forward(1), 0);
+        Check.due("by the second witness", x.forward(2), 0);
+    }
+
+    static void promise08WhatAnAuditMakesItKeepIs() {
         TellTale x = new TellTale();
         x.input(0, 1);
-        Check.due("audit(1, 0)", x.audit(1, 0), 0);
-        Check.due("kept by an audit", x.forward(1), 1);
+        x.audit(1, 0);
+        Check.due("notes", x.forward(1), 1);
+        Check.due("again", x.forward(1), 0);
         Check.due("the note", x.deliver(0), true);
-        Check.due("audit by 2", x.audit(2, 0), 0);
-        Check.due("kept by a note, not by the audit", x.forward(2), 0);
-        x.lie(0, 2, SILENT);
-        x.lie(0, 1, SILENT);
-        x.copy(1);
-        x.deliver(1);
-        Check.due("the message's head", x.forward(1), 1);
-        Check.due("note", x.deliver(2), true);
-        Check.due("message to 2", x.deliver(0), true);
-        Check.due("of number 2 alone", x.forward(2), 1);
-        Check.part("promise 8, a note first and the message then");
-        TellTale y = new TellTale();
-        y.open(4);
-        y.lie(0, 2, SILENT);
-        y.copy(0);
-        y.deliver(0);
-        y.forward(2);
-        y.deliver(1);
-        Check.due("kept by 1", y.about(1, 3), 1);
-        Check.due("nothing to forward", y.forward(1), 0);
-        Check.due("message once more", y.deliver(0), false);
+        Check.due("kept by 2", x.about(2, 3), 1);
     }
 
-    private static void promise08FullRow() {
-        Check.part("promise 8, full row");
+    static void promise08ByANoteFirstAndAnAuditThen() {
         TellTale x = new TellTale();
-        x.open(5);
+        x.input(0, 1);
+        x.audit(1, 0);
+        x.forward(1);
+        x.deliver(0);
+        Check.due("audit of what it keeps", x.audit(2, 0), 0);
+        Check.due("notes", x.forward(2), 0);
+    }
+
+    static void promise08ByANoteFirstAndAMessageThen() {
+        TellTale x = new TellTale();
+        x.input(0, 2);
+        x.audit(2, 0);
+        x.forward(2);
+        x.deliver(1);
+        Check.due("the message of what it keeps", x.deliver(0), true);
+        Check.due("notes", x.forward(1), 0);
+    }
+
+    static void promise08ByAMessageFirstAndANoteThen() {
+        TellTale x = new TellTale();
+        x.input(0, 2);
+        x.audit(2, 0);
+        x.forward(2);
+        x.deliver(0);
+        Check.due("the note of what it keeps", x.deliver(0), false);
+        Check.due("notes", x.forward(1), 1);
+    }
+
+    // LETTERS lie in a row of 200 at most, what is sent into a full one is lost.
+    static void promise08LostInAFullRow() {
+        TellTale x = full(200);
+        Check.due("notes, lost ones too", x.forward(4), 4);
+        Check.due("letters", x.total(0), 200);
+        Check.due("sent, lost ones too", x.total(1), 7);
+        x.drop(0);
+        Check.due("lost ones are not sent again", x.forward(4), 0);
+        Check.due("the last letter is none of them", x.drop(198), 1);
+    }
+
+    static void promise08OnePlaceForFourNotes() {
+        TellTale x = full(199);
+        Check.due("notes, lost ones too", x.forward(4), 4);
+        Check.due("letters", x.total(0), 200);
+        Check.due("sent, lost ones too", x.total(1), 7);
+        Check.due("the one that got in", x.deliver(199), true);
+        Check.due("goes to 1", x.about(1, 3), 1);
+        Check.due("lost ones are not sent again", x.forward(4), 0);
+    }
+
+    static void promise08FourPlacesForFourNotes() {
+        TellTale x = full(196);
+        Check.due("notes", x.forward(4), 4);
+        Check.due("letters", x.total(0), 200);
+        for (int i = 0; i < 4; i++) {
+            Check.due("the last note", x.deliver(199 - i), true);
+        }
+        Check.due("kept by 2", x.about(2, 3), 2);
+        Check.due("kept by 1", x.about(1, 3), 1);
+        Check.due("kept by 3", x.about(3, 3), 1);
+    }
+
+    // Node 4 of five keeps a head of 0 and one of 1; there are so many letters, all of 2 to 3.
+    private static TellTale full(int letters) {
+        TellTale x = Scenes.opened(5);
         x.lie(0, 4, SILENT);
         x.deliver(0);
         x.lie(1, 4, SILENT);
         x.deliver(0);
         x.lie(2, 3, 1);
-        for (int i = 1; i < 199; i++) {
+        for (int i = 1; i < letters; i++) {
             x.copy(0);
         }
+        Check.due("letters", x.total(0), letters);
         Check.due("sent", x.total(1), 3);
-        Check.due("notes, lost ones too", x.forward(4), 4);
-        Check.due("letters", x.total(0), 200);
-        Check.due("sent in all", x.total(1), 7);
-        Check.due("lost ones are not sent again", x.forward(4), 0);
-        Check.due("the one that got in", x.deliver(199), true);
-        Check.due("goes to 1", x.about(1, 3), 1);
+        return x;
+    }
+
+    static void promise08RefusesNoNode() {
+        for (int bad : new int[] {-1, 4, 5, 6, Integer.MIN_VALUE, Integer.MAX_VALUE}) {
+            Twins.refuse(Check.IAE, "forward(" + bad + ")", Scenes::busy, x -> x.forward(bad));
+        }
+        Twins.refuse(Check.IAE, "forward(3) of three", Scenes::fresh, x -> x.forward(3));
+        Twins.refuse(Check.IAE, "forward(6) of six", () -> keepsAll(5), x -> x.forward(6));
     }
 }
