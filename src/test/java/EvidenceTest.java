@@ -185,6 +185,29 @@ public final class EvidenceTest {
         Check.due("holds with 3 entries", x.holds(0), true);
     }
 
+    // Told entries end where the bytes end, whatever a longer piece had there before open().
+    static void promise15TooShortWhereALongerOneWas() {
+        TellTale x = Scenes.fullLog();
+        x.audit(2, 1);
+        x.bend(1, 150, 5);
+        x.audit(2, 1);
+        Check.due("the longer one", x.holds(0), true);
+        for (int i = 904; i < 930; i += 6) {
+            x.smudge(0, i, 1);
+        }
+        x.open(3);
+        x.lie(0, 1, 3);
+        x.audit(1, 0);
+        Check.due("the shorter one", x.holds(0), true);
+        x.smudge(0, 10, 1);
+        x.smudge(0, 16, 1);
+        for (int entries : new int[] {1, 2, 150, 255, 256 + 1, 65535}) {
+            x.smudge(0, 2, entries >> 8);
+            x.smudge(0, 3, entries & 255);
+            Check.due("holds with " + entries + " entries told", x.holds(0), false);
+        }
+    }
+
     // Signed as it should be, only that there are fewer entries told than there is room for.
     static void promise15TooLongThoughSigned() {
         TellTale x = Scenes.withRun(3, 2);
